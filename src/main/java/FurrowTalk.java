@@ -515,7 +515,7 @@ public final class FurrowTalk {
     private int linesThatEcho(Furrow last) {
         int good = 0;
         for (int i = 0; i < ALL_LINES; i++) {
-            candidate.setLineByPlace(i);
+            candidate.setLine(lineAt(i));
             if (candidate.echoes(last)) {
                 good++;
             }
@@ -557,6 +557,10 @@ public final class FurrowTalk {
         return lc >= 10 && lc / 10 <= LONGS && lc % 10 < CROOKS;
     }
 
+    private static int lineAt(int place) {
+        return 10 * (1 + place / CROOKS) + place % CROOKS;
+    }
+
     private static boolean isHand(int hand) {
         return hand >= 0 && hand < HANDS;
     }
@@ -595,11 +599,6 @@ public final class FurrowTalk {
         void setLine(int lc) {
             length = lc / 10;
             crook = lc % 10;
-        }
-
-        void setLineByPlace(int place) {
-            length = 1 + place / CROOKS;
-            crook = place % CROOKS;
         }
 
         int line() {
@@ -775,9 +774,9 @@ public final class FurrowTalk {
         void passYearByDraws() {
             if (size < MOST_FURROWS) {
                 int kind = nextDraw() % KINDS;
-                int line = nextDraw() % ALL_LINES;
+                int line = lineAt(nextDraw() % ALL_LINES);
                 int hand = nextDraw() % HANDS;
-                add(10 * kind, 10 * (1 + line / CROOKS) + line % CROOKS, hand);
+                add(10 * kind, line, hand);
             }
             passYear();
         }
