@@ -334,11 +334,7 @@ public final class FurrowTalk {
             return refuse(BEYOND);
         }
         int said = speaker.speak(now.field.furrows[furrow], furrow, voice, x);
-        if (speaker.parted) {
-            return refuse(PARTED);
-        }
-        speaker.keepTrace();
-        return said;
+        return speaker.parted ? refuse(PARTED) : said;
     }
 
     public int body(int i) {
@@ -1122,16 +1118,13 @@ public final class FurrowTalk {
         final int[] trace = new int[TRACE_SIZE];
         int traceSize;
         boolean parted;
-        // Apart from the trace, which a voice that is parted leaves as it was.
-        private final int[] begun = new int[TRACE_SIZE];
-        private int begunSize;
         private int kind;
         private int k;
         private int m;
 
         int speak(Furrow one, int number, int voice, int x) {
             parted = false;
-            begunSize = 0;
+            traceSize = 0;
             kind = one.kind;
             k = number;
             m = one.m;
@@ -1143,15 +1136,10 @@ public final class FurrowTalk {
             }
         }
 
-        void keepTrace() {
-            System.arraycopy(begun, 0, trace, 0, begunSize);
-            traceSize = begunSize;
-        }
-
         private void begin(int body) {
-            if (begunSize < TRACE_SIZE) {
-                begun[begunSize] = body;
-                begunSize++;
+            if (traceSize < TRACE_SIZE) {
+                trace[traceSize] = body;
+                traceSize++;
             }
         }
 
@@ -1208,7 +1196,9 @@ public final class FurrowTalk {
                 case OATH:
                 case SWORN:
                     begin(21);
-                    return parts(FURROW, x) + asks(kind, 1);
+                    int left = parts(FURROW, x);
+                    // What stands behind a BODY that parted doesn't begin any more.
+                    return parted ? 0 : left + asks(kind, 1);
                 default:
                     begin(13);
                     if (m == k) {

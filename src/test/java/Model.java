@@ -712,9 +712,8 @@ final class Model {
         body.k = f;
         body.m = o.m;
         body.trace = new ArrayList<>();
-        int said = voice == 0 ? body.says(x) : voice == 1 ? body.asks(x) : voice == 2 ? body.hums(x) : body.parts(x);
-        trace = body.trace.subList(0, Math.min(30, body.trace.size()));
-        return said;
+        trace = body.trace;
+        return voice == 0 ? body.says(x) : voice == 1 ? body.asks(x) : voice == 2 ? body.hums(x) : body.parts(x);
     }
 
     long body(int i) {

@@ -973,18 +973,16 @@ public final class PromiseTest {
         voice(x, 6, 3, MIN, MIN, 13);
         voice(x, 6, 3, 17, -17, 13);
         x.become(6, 66);
-        due("24 PARTED", x.voice(6, 3, 17), PARTED);
-        due("24 PARTED of 0, too", x.voice(6, 3, 0), PARTED);
-        due("24 THE TRACE stays", x.body(0), 13);
+        voice(x, 6, 3, 17, PARTED, 13);
+        voice(x, 6, 3, 0, PARTED, 13);
         due("24 told", x.told(6), 2);
+        due("24 the other voices are not PARTED", x.voice(6, 1, 7), 24);
+        x.become(1, 11);
         x.become(4, 44);
-        voice(x, 1, 0, 7, 4, 20, 10);
-        due("24 PARTED below", x.voice(4, 3, 17), PARTED);
-        due("24 THE TRACE stays as it was", x.count(6), 2);
-        due("24 THE TRACE stays, its first", x.body(0), 20);
-        x.voice(9, 0, 0);
-        due("24 THE TRACE stays behind BEYOND", x.body(0), 20);
-        due("24 the other voices are not", x.voice(4, 0, 7), 21);
+        voice(x, 1, 3, 17, PARTED, 21, 13);
+        voice(x, 0, 2, 7, 9, 12, 11, 10);
+        voice(x, 4, 3, 17, PARTED, 21, 13);
+        voice(x, 4, 0, 7, 21, 50, 20, 10);
     }
 
     private static void promise25() {
@@ -1003,6 +1001,27 @@ public final class PromiseTest {
         x.voice(0, 0, 1);
         due("25 the latest one", x.body(0), 50);
         due("25 nothing of the one ahead", x.body(3), NONE);
+        promise25OfErrors();
+    }
+
+    /** One that is PARTED has begun BODIES; one that is BEYOND hasn't, and changes nothing. */
+    private static void promise25OfErrors() {
+        FurrowTalk x = with(10, 10, 0);
+        due("25 PARTED at first", x.voice(0, 3, 5), PARTED);
+        due("25 of PARTED, 0", x.body(0), 21);
+        due("25 of PARTED, 1", x.body(1), 13);
+        due("25 of PARTED, 2", x.body(2), NONE);
+        x.image();
+        x.voice(0, 0, 1);
+        due("25 BEYOND", x.voice(1, 0, 0), BEYOND);
+        due("25 BEYOND of the voice", x.voice(0, 4, 0), BEYOND);
+        due("25 it stays behind BEYOND", x.count(6), 2);
+        due("25 behind BEYOND, 0", x.body(0), 20);
+        due("25 behind BEYOND, 1", x.body(1), 10);
+        x.voice(0, 3, 5);
+        due("25 PARTED, in place of a longer one", x.body(0), 21);
+        x.restore();
+        due("25 no IMAGE holds it", x.body(1), 13);
     }
 
     private static void promise26() {
@@ -1368,7 +1387,7 @@ public final class PromiseTest {
         counted(x, "odds of 12", () -> x.odds(0, 0, 0), STATE);
         counted(x, "voice", () -> x.voice(0, 4, 0), BEYOND);
         counted(x, "voice PARTED", () -> x.voice(0, 3, 0), PARTED);
-        counted(x, "body", () -> x.body(0), NONE);
+        counted(x, "body", () -> x.body(1), NONE);
         x.years(60);
         counted(x, "reply to none", () -> x.reply(10, 0), STATE);
         counted(x, "count", () -> x.count(8), BEYOND);
