@@ -1058,6 +1058,9 @@ public final class FurrowTalk {
 
     /** What the cheapest ways cost along the values of LONG, or of CROOK. */
     private static final class Scale {
+        // Above each way's COST: that is 11 steps at most, of 99 each.
+        private static final int UNREACHED = 1000000;
+
         // By how far a step goes; never below 1.
         final int[] stepCosts;
         // From each value to the goal.
@@ -1072,7 +1075,7 @@ public final class FurrowTalk {
 
         void measureTo(int goal) {
             for (int i = 0; i < costs.length; i++) {
-                costs[i] = i == goal ? 0 : Integer.MAX_VALUE;
+                costs[i] = i == goal ? 0 : UNREACHED;
                 settled[i] = false;
             }
             for (int i = 0; i < costs.length; i++) {

@@ -10,8 +10,26 @@ final class Checks {
 
     private static int done;
     private static int wrong;
+    private static int sentences;
+    private static int doneAtSentence;
+    private static String sentence = "";
 
     private Checks() {
+    }
+
+    /** What is looked at from here on is asked by this sentence of the document, told in its words. */
+    static void sentence(String words) {
+        endSentence();
+        sentence = words;
+        doneAtSentence = done;
+        sentences++;
+    }
+
+    private static void endSentence() {
+        if (!sentence.isEmpty() && done == doneAtSentence) {
+            wrong++;
+            System.out.println("nothing was looked at for: " + sentence);
+        }
     }
 
     static void due(String what, long got, long want) {
@@ -19,7 +37,8 @@ final class Checks {
         if (got != want) {
             wrong++;
             if (wrong <= 50) {
-                System.out.println(what + " answered " + got + ", due is " + want);
+                String asked = sentence.isEmpty() ? "" : " [" + sentence + "]";
+                System.out.println(what + " answered " + got + ", due is " + want + asked);
             }
         }
     }
@@ -29,7 +48,9 @@ final class Checks {
     }
 
     static void end() {
-        System.out.println(done + " answers looked at, " + wrong + " not as due");
+        endSentence();
+        String of = sentences == 0 ? "" : sentences + " sentences, ";
+        System.out.println(of + done + " answers looked at, " + wrong + " not as due");
         if (wrong != 0 || done == 0) {
             System.exit(1);
         }

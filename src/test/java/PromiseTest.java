@@ -69,41 +69,6 @@ public final class PromiseTest {
         Checks.due(what, got, want);
     }
 
-    /** Furrows as km, lc, hand each. */
-    private static FurrowTalk with(int... furrows) {
-        FurrowTalk x = new FurrowTalk();
-        for (int i = 0; i < furrows.length; i += 3) {
-            due("plough", x.plough(furrows[i], furrows[i + 1], furrows[i + 2]), i / 3);
-        }
-        return x;
-    }
-
-    private static FurrowTalk full() {
-        FurrowTalk x = new FurrowTalk();
-        for (int i = 0; i < 12; i++) {
-            due("plough", x.plough(0, 10, 0), i);
-        }
-        return x;
-    }
-
-    private static void feed(FurrowTalk x, String bytes) {
-        for (int i = 0; i < bytes.length(); i++) {
-            x.feed(bytes.charAt(i), 1);
-        }
-    }
-
-    private static int text(FurrowTalk x, int use, String bytes) {
-        feed(x, bytes);
-        return x.text(use);
-    }
-
-    private static void row(FurrowTalk x, int sheet, int bits, int... numbers) {
-        due("sheet", x.sheet(sheet, bits, numbers.length), 1);
-        for (int i = 0; i < numbers.length; i++) {
-            due("put", x.put(sheet, i, numbers[i]), 1);
-        }
-    }
-
     private static void promise1() {
         FurrowTalk x = new FurrowTalk();
         long[] first = {0, 0, 0, 5, 0, 0, 0, 1};
@@ -129,7 +94,7 @@ public final class PromiseTest {
     }
 
     private static void promise2() {
-        FurrowTalk x = with(0, 10, 0, 69, 125, 5);
+        FurrowTalk x = Given.furrows(0, 10, 0, 69, 125, 5);
         due("2 KIND", x.furrowIs(1, 0), 6);
         due("2 m", x.furrowIs(1, 1), 9);
         due("2 LONG", x.furrowIs(1, 2), 12);
@@ -144,7 +109,7 @@ public final class PromiseTest {
             due("2 bad " + b[0] + " " + b[1] + " " + b[2], x.plough(b[0], b[1], b[2]), BEYOND);
         }
         due("2 nothing changed", x.count(0), 2);
-        FurrowTalk y = full();
+        FurrowTalk y = Given.twelve();
         due("2 FULL", y.plough(0, 10, 0), FULL);
         due("2 BEYOND ahead of FULL", y.plough(70, 10, 0), BEYOND);
         due("2 BEYOND of a hand ahead of FULL", y.plough(0, 10, 6), BEYOND);
@@ -162,18 +127,19 @@ public final class PromiseTest {
     }
 
     private static void promise3() {
-        FurrowTalk x = with(4, 35, 1, 14, 35, 2, 24, 35, 3, 34, 35, 4, 44, 35, 5, 54, 35, 0, 64, 35, 1, 50, 10, 0);
+        FurrowTalk x = Given.furrows(4, 35, 1, 14, 35, 2, 24, 35, 3, 34, 35, 4, 44, 35, 5, 54, 35, 0, 64, 35, 1,
+            50, 10, 0);
         long[] depth = {4, 6, 8, 4, 11, 7, 7, -1};
         for (int i = 0; i < depth.length; i++) {
             due("3 DEPTH of " + i, x.furrowIs(i, 7), depth[i]);
         }
         due("3 SENSE without a TEXT", x.furrowIs(0, 8), 15);
         due("3 SENSE of CROOK 0", x.furrowIs(7, 8), 0);
-        due("3 text", text(x, 1, "l*100+c*10+d-300"), 1);
+        due("3 text", Given.text(x, 1, "l*100+c*10+d-300"), 1);
         due("3 SENSE by a TEXT", x.furrowIs(0, 8), 54);
         due("3 SENSE by DEPTH", x.furrowIs(4, 8), 61);
         due("3 SENSE held below", x.furrowIs(7, 8), -99);
-        text(x, 1, "l*c*d");
+        Given.text(x, 1, "l*c*d");
         due("3 SENSE held above", x.furrowIs(4, 8), 99);
         due("3 LONG", x.furrowIs(3, 2), 3);
         due("3 CROOK", x.furrowIs(3, 3), 5);
@@ -187,7 +153,7 @@ public final class PromiseTest {
     }
 
     private static void promise3Heard() {
-        FurrowTalk x = with(0, 42, 0, 0, 45, 1, 0, 31, 2);
+        FurrowTalk x = Given.furrows(0, 42, 0, 0, 45, 1, 0, 31, 2);
         due("3 HEARD", x.furrowIs(0, 9), 1);
         due("3 not HEARD", x.furrowIs(1, 9), 0);
         due("3 the last one is not HEARD", x.furrowIs(2, 9), 0);
@@ -198,7 +164,7 @@ public final class PromiseTest {
         due("3 a COVERED one can be HEARD", x.furrowIs(1, 9), 1);
         x.cover(2, 1);
         due("3 none is SEEN behind", x.furrowIs(0, 9), 0);
-        FurrowTalk y = with(20, 32, 0, 0, 31, 0);
+        FurrowTalk y = Given.furrows(20, 32, 0, 0, 31, 0);
         due("3 that ANSWERS by its own KIND", y.furrowIs(0, 9), 1);
         y.become(1, 20);
         due("3 as a ROUND it doesn't", y.furrowIs(0, 9), 0);
@@ -210,7 +176,7 @@ public final class PromiseTest {
     }
 
     private static void promise4() {
-        FurrowTalk x = with(12, 34, 5);
+        FurrowTalk x = Given.furrows(12, 34, 5);
         due("4 was OATH", x.become(0, 69), 1);
         due("4 KIND", x.furrowIs(0, 0), 6);
         due("4 m", x.furrowIs(0, 1), 9);
@@ -229,7 +195,7 @@ public final class PromiseTest {
     }
 
     private static void promise5() {
-        FurrowTalk x = with(1, 10, 0, 12, 10, 0, 23, 10, 0, 34, 10, 0, 45, 10, 0, 56, 10, 0, 67, 10, 0);
+        FurrowTalk x = Given.furrows(1, 10, 0, 12, 10, 0, 23, 10, 0, 34, 10, 0, 45, 10, 0, 56, 10, 0, 67, 10, 0);
         String[] kinds = {"0", "01", "02", "03", "014", "025", "06"};
         for (int f = 0; f < 7; f++) {
             for (int kind = 0; kind < 7; kind++) {
@@ -245,7 +211,7 @@ public final class PromiseTest {
 
     /** Whether a FURROW of a KIND with a LINE and HAND 1 ANSWERS a plain one with LINE 43 of HAND 2. */
     private static void answer(int kind, int lc, long want) {
-        FurrowTalk x = with(0, 43, 2, 10 * kind, lc, 1);
+        FurrowTalk x = Given.furrows(0, 43, 2, 10 * kind, lc, 1);
         due("6 KIND " + kind + ", LINE " + lc, x.answers(1, 0), want);
     }
 
@@ -257,7 +223,7 @@ public final class PromiseTest {
                 answer(kind, to[i], want[kind].charAt(i) - '0');
             }
         }
-        FurrowTalk x = with(0, 43, 2, 60, 11, 2, 0, 11, 2);
+        FurrowTalk x = Given.furrows(0, 43, 2, 60, 11, 2, 0, 11, 2);
         due("6 DEEP by its HAND", x.answers(1, 0), 1);
         due("6 a FURROW not by its HAND", x.answers(2, 0), 0);
         due("6 it is the KIND of the one that answers", x.answers(0, 1), 0);
@@ -272,7 +238,7 @@ public final class PromiseTest {
     }
 
     private static void promise7() {
-        FurrowTalk x = with(0, 10, 0, 0, 11, 0);
+        FurrowTalk x = Given.furrows(0, 10, 0, 0, 11, 0);
         due("7 wasn't", x.cover(0, 1), 0);
         due("7 was", x.cover(0, 1), 1);
         due("7 COVERED", x.furrowIs(0, 6), 1);
@@ -289,7 +255,7 @@ public final class PromiseTest {
     }
 
     private static void promise8() {
-        FurrowTalk x = with(0, 125, 0, 0, 10, 0);
+        FurrowTalk x = Given.furrows(0, 125, 0, 0, 10, 0);
         due("8 was 125", x.redraw(0, 34), 125);
         due("8 LONG", x.furrowIs(0, 2), 3);
         due("8 CROOK", x.furrowIs(0, 3), 4);
@@ -304,7 +270,7 @@ public final class PromiseTest {
     }
 
     private static void promise9() {
-        FurrowTalk x = with(0, 10, 0);
+        FurrowTalk x = Given.furrows(0, 10, 0);
         due("9 was 5", x.patience(1), 5);
         due("9 was 1", x.patience(20), 1);
         due("9 v 0", x.patience(0), BEYOND);
@@ -343,7 +309,7 @@ public final class PromiseTest {
 
     private static void promise11() {
         FurrowTalk x = new FurrowTalk();
-        feed(x, "a+b");
+        Given.feed(x, "a+b");
         due("11 use 2", x.text(2), BEYOND);
         due("11 use -1", x.text(-1), BEYOND);
         due("11 THE TAPE stays", x.count(4), 3);
@@ -353,23 +319,23 @@ public final class PromiseTest {
         due("11 the other USE has none", x.untell(1), 0);
         due("11 an empty TAPE", x.text(0), -10);
         due("11 the one ahead stays", x.law(0, 20, 30, 0), 50);
-        due("11 in place of one ahead", text(x, 0, "a*2"), 1);
+        due("11 in place of one ahead", Given.text(x, 0, "a*2"), 1);
         due("11 law anew", x.law(0, 20, 30, 0), 40);
-        due("11 FAULT", text(x, 0, "b*x"), -12);
+        due("11 FAULT", Given.text(x, 0, "b*x"), -12);
         due("11 THE TAPE is empty, too", x.count(4), 0);
         due("11 it stays", x.law(0, 20, 30, 0), 40);
         due("11 FAULT is no ERROR", x.told(1), 2);
         String sixty = "1+1+1+1+1+1+1+1+1+1+1+1+1+1+1+1+1+1+1+1+1+1+1+1+1+1+1+1+1+11";
-        due("11 sixty bytes", text(x, 1, sixty), 1);
+        due("11 sixty bytes", Given.text(x, 1, sixty), 1);
         due("11 their value", x.law(1, 0, 0, 0), 40);
-        due("11 sixty, too early", text(x, 1, sixty.substring(0, 59) + "+"), -70);
-        due("11 nested", text(x, 1, "((((l))))"), 1);
+        due("11 sixty, too early", Given.text(x, 1, sixty.substring(0, 59) + "+"), -70);
+        due("11 nested", Given.text(x, 1, "((((l))))"), 1);
         due("11 short one in place of a long one", x.law(1, 7, 0, 0), 7);
     }
 
     private static void fault(String bytes, int use, int want) {
         FurrowTalk x = new FurrowTalk();
-        due("11 FAULT of " + bytes, text(x, use, bytes), want);
+        due("11 FAULT of " + bytes, Given.text(x, use, bytes), want);
         due("11 TEXT of " + bytes, x.untell(use), want == 1 ? 1 : 0);
     }
 
@@ -445,8 +411,8 @@ public final class PromiseTest {
     private static void promise12() {
         FurrowTalk x = new FurrowTalk();
         due("12 none", x.untell(0), 0);
-        text(x, 0, "7");
-        text(x, 1, "8");
+        Given.text(x, 0, "7");
+        Given.text(x, 1, "8");
         due("12 there was", x.untell(0), 1);
         due("12 not any more", x.untell(0), 0);
         due("12 without a TEXT", x.law(0, 1, 2, 3), 3);
@@ -471,15 +437,15 @@ public final class PromiseTest {
         due("13 SENSE wraps below", x.law(1, 65536, 32768, 0), -99);
         due("13 use 2", x.law(2, 1, 1, 1), BEYOND);
         due("13 use -1", x.law(-1, 1, 1, 1), BEYOND);
-        text(x, 0, "a*9+b*3+k");
+        Given.text(x, 0, "a*9+b*3+k");
         due("13 NAMES in order", x.law(0, 4, 5, 6), 57);
-        text(x, 1, "l*9+c*3-d");
+        Given.text(x, 1, "l*9+c*3-d");
         due("13 NAMES in order, too", x.law(1, 4, 5, 6), 45);
-        text(x, 0, "0-a");
+        Given.text(x, 0, "0-a");
         due("13 held at 1", x.law(0, 5, 0, 0), 1);
-        text(x, 0, "100");
+        Given.text(x, 0, "100");
         due("13 held at 99", x.law(0, 5, 0, 0), 99);
-        text(x, 1, "0-l");
+        Given.text(x, 1, "0-l");
         due("13 held at -99", x.law(1, 100, 0, 0), -99);
         due("13 -98", x.law(1, 98, 0, 0), -98);
         due("13 held at 99, too", x.law(1, -100, 0, 0), 99);
@@ -488,7 +454,7 @@ public final class PromiseTest {
 
     private static void value(String bytes, int want) {
         FurrowTalk x = new FurrowTalk();
-        due("13 TEXT " + bytes, text(x, 1, bytes), 1);
+        due("13 TEXT " + bytes, Given.text(x, 1, bytes), 1);
         due("13 value of " + bytes, x.law(1, 7, -3, 0), want);
     }
 
@@ -546,30 +512,30 @@ public final class PromiseTest {
 
     private static void promise13Ints() {
         FurrowTalk x = new FurrowTalk();
-        text(x, 1, "l/c");
+        Given.text(x, 1, "l/c");
         due("13 MIN by -1", x.law(1, MIN, -1, 0), -99);
-        text(x, 1, "l%c");
+        Given.text(x, 1, "l%c");
         due("13 MIN % -1", x.law(1, MIN, -1, 0), 0);
-        text(x, 1, "l*c");
+        Given.text(x, 1, "l*c");
         due("13 * wraps", x.law(1, 65536, 65537, 0), 99);
         due("13 * wraps to 0", x.law(1, 65536, 65536, 0), 0);
-        text(x, 1, "l+c<0");
+        Given.text(x, 1, "l+c<0");
         due("13 + wraps", x.law(1, MAX, 1, 0), 1);
-        text(x, 1, "l-c>0");
+        Given.text(x, 1, "l-c>0");
         due("13 - wraps", x.law(1, MIN, 1, 0), 1);
-        text(x, 1, "l<c");
+        Given.text(x, 1, "l<c");
         due("13 < of MIN and MAX", x.law(1, MIN, MAX, 0), 1);
-        text(x, 0, "9999*9999/9999");
+        Given.text(x, 0, "9999*9999/9999");
         due("13 numbers of 4 digits", x.law(0, 0, 0, 0), 99);
-        text(x, 0, "9999/102-a");
+        Given.text(x, 0, "9999/102-a");
         due("13 their value", x.law(0, 1, 0, 0), 97);
-        text(x, 0, "k/b");
+        Given.text(x, 0, "k/b");
         due("13 by 0", x.law(0, 1, 0, 50), 1);
         due("13 not by 0", x.law(0, 1, 5, 50), 10);
     }
 
     private static void promise14() {
-        FurrowTalk x = with(0, 42, 0, 0, 45, 0, 0, 31, 0);
+        FurrowTalk x = Given.furrows(0, 42, 0, 0, 45, 0, 0, 31, 0);
         due("14 one", x.years(1), 3);
         due("14 the HEARD one", x.furrowIs(0, 5), 0);
         due("14 the one not HEARD", x.furrowIs(1, 5), 1);
@@ -600,7 +566,7 @@ public final class PromiseTest {
     }
 
     private static void promise14Ages() {
-        FurrowTalk x = with(0, 10, 0, 0, 21, 0);
+        FurrowTalk x = Given.furrows(0, 10, 0, 0, 21, 0);
         x.patience(1);
         for (int i = 0; i < 98; i++) {
             x.cover(0, 0);
@@ -613,7 +579,7 @@ public final class PromiseTest {
         x.cover(0, 0);
         due("14 held, COVERED again", x.years(1), 0);
         due("14 AGE held at 99", x.furrowIs(0, 5), 99);
-        FurrowTalk y = with(0, 10, 0);
+        FurrowTalk y = Given.furrows(0, 10, 0);
         y.years(4);
         y.patience(3);
         due("14 not COVERED by patience alone", y.count(1), 1);
@@ -678,7 +644,7 @@ public final class PromiseTest {
         for (int i = 0; i < 3; i++) {
             due("17 without FURROWS " + i, x.talk(i), 0);
         }
-        x = with(0, 10, 0, 0, 21, 0, 0, 22, 0, 0, 32, 0, 0, 43, 0, 0, 44, 0);
+        x = Given.furrows(0, 10, 0, 0, 21, 0, 0, 22, 0, 0, 32, 0, 0, 43, 0, 0, 44, 0);
         due("17 TALK", x.talk(0), 3);
         due("17 ANSWERS", x.talk(1), 3);
         due("17 SEEN", x.talk(2), 6);
@@ -703,7 +669,7 @@ public final class PromiseTest {
     }
 
     private static void promise18() {
-        FurrowTalk x = with(0, 35, 0, 0, 34, 1, 0, 24, 2, 0, 12, 1, 0, 11, 1, 0, 51, 2);
+        FurrowTalk x = Given.furrows(0, 35, 0, 0, 34, 1, 0, 24, 2, 0, 12, 1, 0, 11, 1, 0, 51, 2);
         due("18 of all", x.meaning(-1), 12 + 8 + 1 + 5);
         due("18 of 1", x.meaning(1), 13);
         due("18 of 2", x.meaning(2), 13);
@@ -712,25 +678,25 @@ public final class PromiseTest {
         x.cover(2, 1);
         due("18 a COVERED one says nothing", x.meaning(2), 5);
         due("18 of all, too", x.meaning(-1), 12 + 1 + 5);
-        text(x, 1, "l*1000");
+        Given.text(x, 1, "l*1000");
         due("18 each is held", x.meaning(-1), 297);
-        text(x, 1, "0-l*d-1");
+        Given.text(x, 1, "0-l*d-1");
         due("18 below 0", x.meaning(1), -2);
         due("18 hand -2", x.meaning(-2), BEYOND);
         due("18 hand 6", x.meaning(6), BEYOND);
         due("18 COVERED first", x.cover(0, 1), 0);
         due("18 the first SEEN one is no ANSWER", x.meaning(1), -1);
         due("18 without FURROWS", new FurrowTalk().meaning(5), 0);
-        FurrowTalk y = with(0, 10, 0, 0, 15, 5);
+        FurrowTalk y = Given.furrows(0, 10, 0, 0, 15, 5);
         due("18 hand 5", y.meaning(5), 5);
         due("18 hand 0", y.meaning(0), 0);
     }
 
     private static void promise19() {
-        FurrowTalk w = with(60, 10, 3, 60, 21, 3, 60, 32, 4);
+        FurrowTalk w = Given.furrows(60, 10, 3, 60, 21, 3, 60, 32, 4);
         due("19 DEEP by its HAND", w.then(5, 1), 1);
         due("19 DEEP by its HAND, no more", w.then(10, 1), 0);
-        FurrowTalk x = with(0, 42, 0, 0, 45, 0, 0, 31, 0);
+        FurrowTalk x = Given.furrows(0, 42, 0, 0, 45, 0, 0, 31, 0);
         due("19 now, how many", x.then(0, 0), 3);
         due("19 now, the set", x.then(0, 1), 7);
         due("19 4 on", x.then(4, 1), 7);
@@ -760,7 +726,7 @@ public final class PromiseTest {
         FurrowTalk x = new FurrowTalk();
         due("20 none", x.fewest(0), 0);
         due("20 none, the set", x.fewest(1), 0);
-        x = with(0, 10, 0, 0, 10, 0, 0, 10, 0);
+        x = Given.furrows(0, 10, 0, 0, 10, 0, 0, 10, 0);
         due("20 all answer", x.fewest(0), 0);
         due("20 all answer, the set", x.fewest(1), 0);
         x.redraw(1, 21);
@@ -772,10 +738,10 @@ public final class PromiseTest {
         x.cover(1, 1);
         due("20 besides", x.fewest(0), 1);
         due("20 a COVERED one need not be in it", x.fewest(1), 1);
-        FurrowTalk y = with(0, 10, 0, 0, 21, 0, 0, 11, 0, 0, 12, 0, 0, 55, 0);
+        FurrowTalk y = Given.furrows(0, 10, 0, 0, 21, 0, 0, 11, 0, 0, 12, 0, 0, 55, 0);
         due("20 of several", y.fewest(0), 2);
         due("20 of several, the set", y.fewest(1), 17);
-        FurrowTalk z = with(40, 11, 0, 40, 22, 0, 40, 11, 0, 40, 22, 0, 40, 33, 0, 40, 33, 0);
+        FurrowTalk z = Given.furrows(40, 11, 0, 40, 22, 0, 40, 11, 0, 40, 22, 0, 40, 33, 0, 40, 33, 0);
         due("20 three pairs", z.fewest(0), 4);
         due("20 the least of three", z.fewest(1), 15);
         due("20 what 2", z.fewest(2), BEYOND);
@@ -784,7 +750,7 @@ public final class PromiseTest {
     }
 
     private static void promise21() {
-        FurrowTalk x = with(0, 125, 0, 0, 34, 0);
+        FurrowTalk x = Given.furrows(0, 125, 0, 0, 34, 0);
         due("21 as it is", x.reply(34, 0), 0);
         due("21 as it is, the LINE", x.reply(34, 1), -1);
         due("21 LONG alone", x.reply(64, 0), 3);
@@ -814,28 +780,28 @@ public final class PromiseTest {
     }
 
     private static void promise21Texts() {
-        FurrowTalk x = with(0, 60, 0);
-        text(x, 0, "1+(a=1)*50");
+        FurrowTalk x = Given.furrows(0, 60, 0);
+        Given.text(x, 0, "1+(a=1)*50");
         due("21 rather two steps", x.reply(70, 0), 2);
         due("21 the least of several ways", x.reply(70, 1), 10);
-        text(x, 0, "1+(a=1)*50+(a>2)*50+b");
+        Given.text(x, 0, "1+(a=1)*50+(a>2)*50+b");
         due("21 one step by 2", x.reply(80, 0), 1);
         due("21 2 and 2", x.reply(100, 1), 80);
-        text(x, 0, "k");
+        Given.text(x, 0, "k");
         due("21 PATIENCE is k", x.reply(70, 0), 5);
         due("21 each step costs k", x.reply(71, 0), 10);
         x.patience(7);
         due("21 PATIENCE 7", x.reply(71, 0), 14);
-        text(x, 0, "b*3+a*(a>1)");
+        Given.text(x, 0, "b*3+a*(a>1)");
         due("21 a cost of 0 is 1", x.reply(90, 0), 3);
         due("21 a cost of 0 is 1, the LINE", x.reply(90, 1), 70);
         due("21 steps of CROOK", x.reply(62, 0), 6);
         due("21 steps of CROOK, the least", x.reply(62, 1), 61);
-        text(x, 0, "(a+b)*90");
+        Given.text(x, 0, "(a+b)*90");
         due("21 held at 99", x.reply(125, 0), 198);
         due("21 held at 99: LONG or CROOK first", x.reply(125, 1), 65);
         due("21 held at 99: any step is so", x.reply(15, 1), 10);
-        text(x, 0, "(b=1)*40+(b>1)*3+1");
+        Given.text(x, 0, "(b=1)*40+(b>1)*3+1");
         due("21 over the end of the row", x.reply(61, 0), 8);
         due("21 over a CROOK", x.reply(61, 1), 63);
     }
@@ -846,7 +812,7 @@ public final class PromiseTest {
     }
 
     private static void promise22() {
-        FurrowTalk x = with(0, 10, 3, 0, 42, 5);
+        FurrowTalk x = Given.furrows(0, 10, 3, 0, 42, 5);
         odds(x, 0, 5, 17, 72);
         odds(x, 19, 0, 1, 12);
         odds(x, 20, 0, 2, 3);
@@ -874,47 +840,47 @@ public final class PromiseTest {
         x.cover(0, 1);
         due("22 none is SEEN", x.odds(0, 0, 0), STATE);
         due("22 BEYOND ahead of STATE", x.odds(70, 0, 0), BEYOND);
-        FurrowTalk y = full();
+        FurrowTalk y = Given.twelve();
         due("22 12 FURROWS", y.odds(0, 0, 0), STATE);
         due("22 12 FURROWS, below", y.odds(0, 0, 1), STATE);
         due("22 BEYOND ahead of STATE of 12", y.odds(0, 0, 2), BEYOND);
     }
 
     private static void promise23() {
-        FurrowTalk x = with(0, 42, 0, 0, 45, 0, 0, 31, 0);
-        row(x, 0, 8, 4, 4, 3);
+        FurrowTalk x = Given.furrows(0, 42, 0, 0, 45, 0, 0, 31, 0);
+        Given.row(x, 0, 8, 4, 4, 3);
         due("23 so it is", x.fits(0), 0);
-        row(x, 1, 16, 4);
+        Given.row(x, 1, 16, 4);
         due("23 behind 5", x.fits(1), 5);
-        row(x, 2, 32);
+        Given.row(x, 2, 32);
         due("23 behind 10", x.fits(2), 10);
-        row(x, 3, 32, 4, 4);
+        Given.row(x, 3, 32, 4, 4);
         due("23 never two", x.fits(3), NONE);
-        row(x, 3, 32, 3);
+        Given.row(x, 3, 32, 3);
         due("23 never the last alone", x.fits(3), NONE);
-        row(x, 3, 32, 4, 4, 3, 0);
+        Given.row(x, 3, 32, 4, 4, 3, 0);
         due("23 too many", x.fits(3), NONE);
-        row(x, 3, 32, 3, 4, 4);
+        Given.row(x, 3, 32, 3, 4, 4);
         due("23 in order", x.fits(3), NONE);
         x.patience(20);
         due("23 behind 40", x.fits(2), 40);
-        FurrowTalk y = with(0, 10, 0, 0, 10, 0, 0, 10, 0, 0, 10, 0);
+        FurrowTalk y = Given.furrows(0, 10, 0, 0, 10, 0, 0, 10, 0, 0, 10, 0);
         y.patience(20);
-        row(y, 0, 8, 1);
+        Given.row(y, 0, 8, 1);
         due("23 by 60", y.fits(0), 60);
-        row(y, 0, 8);
+        Given.row(y, 0, 8);
         due("23 not by 60", y.fits(0), NONE);
         due("23 only thought", y.count(2), 0);
         due("23 missing", y.fits(1), NONE);
         due("23 sheet 4", y.fits(4), BEYOND);
         due("23 sheet -1", y.fits(-1), BEYOND);
         y.sheet(2, 8, 0);
-        due("23 no FURROWS", with().fits(0), NONE);
+        due("23 no FURROWS", Given.furrows().fits(0), NONE);
         FurrowTalk z = new FurrowTalk();
         z.sheet(2, 8, 0);
         due("23 no FURROWS, no numbers", z.fits(2), 0);
         y.cover(0, 1);
-        row(y, 0, 8, 1, 1, 1);
+        Given.row(y, 0, 8, 1, 1, 1);
         due("23 COVERED ones don't matter", y.fits(0), 0);
     }
 
@@ -927,7 +893,7 @@ public final class PromiseTest {
     }
 
     private static void promise24() {
-        FurrowTalk x = with(5, 10, 0, 15, 10, 0, 25, 10, 0, 35, 10, 0, 46, 10, 0, 56, 10, 0, 68, 10, 0);
+        FurrowTalk x = Given.furrows(5, 10, 0, 15, 10, 0, 25, 10, 0, 35, 10, 0, 46, 10, 0, 56, 10, 0, 68, 10, 0);
         voice(x, 0, 0, 7, 7, 10);
         voice(x, 0, 1, 7, 14, 11, 10);
         voice(x, 0, 2, 7, 9, 12, 11, 10);
@@ -961,7 +927,7 @@ public final class PromiseTest {
     }
 
     private static void promise24Parts() {
-        FurrowTalk x = with(5, 10, 0, 15, 10, 0, 25, 10, 0, 35, 10, 0, 46, 10, 0, 56, 10, 0, 68, 10, 0);
+        FurrowTalk x = Given.furrows(5, 10, 0, 15, 10, 0, 25, 10, 0, 35, 10, 0, 46, 10, 0, 56, 10, 0, 68, 10, 0);
         voice(x, 0, 3, 17, 3, 13);
         voice(x, 1, 3, 17, 4 + (1 + 1 - 4) * 2, 21, 13, 11, 20, 10);
         voice(x, 2, 3, -17, -5, 13);
@@ -986,7 +952,7 @@ public final class PromiseTest {
     }
 
     private static void promise25() {
-        FurrowTalk x = with(40, 10, 0);
+        FurrowTalk x = Given.furrows(40, 10, 0);
         due("25 at first", x.body(0), NONE);
         x.voice(0, 2, 1);
         int[] trace = {51, 12, 11, 50, 20, 10};
@@ -1006,7 +972,7 @@ public final class PromiseTest {
 
     /** One that is PARTED has begun BODIES; one that is BEYOND hasn't, and changes nothing. */
     private static void promise25OfErrors() {
-        FurrowTalk x = with(10, 10, 0);
+        FurrowTalk x = Given.furrows(10, 10, 0);
         due("25 PARTED at first", x.voice(0, 3, 5), PARTED);
         due("25 of PARTED, 0", x.body(0), 21);
         due("25 of PARTED, 1", x.body(1), 13);
@@ -1025,7 +991,7 @@ public final class PromiseTest {
     }
 
     private static void promise26() {
-        FurrowTalk x = with(0, 10, 0);
+        FurrowTalk x = Given.furrows(0, 10, 0);
         due("26 of 24", x.sheet(3, 8, 24), 1);
         due("26 the last number", x.put(3, 23, 1), 1);
         due("26 no more", x.put(3, 24, 1), BEYOND);
@@ -1034,7 +1000,7 @@ public final class PromiseTest {
         due("26 missing", x.sheet(3, 0, -5), 1);
         due("26 it is missing", x.put(3, 0, 1), NONE);
         due("26 missing, n of 99", x.sheet(3, 0, 99), 1);
-        row(x, 1, 32, 5);
+        Given.row(x, 1, 32, 5);
         x.sheet(1, 32, 1);
         due("26 all 0", x.judge(1), 1);
         due("26 below 0", x.sheet(1, 8, -1), STATE);
@@ -1053,22 +1019,22 @@ public final class PromiseTest {
     }
 
     private static void promise27() {
-        FurrowTalk x = with(0, 10, 0, 0, 11, 0);
-        text(x, 1, "d");
-        row(x, 0, 8, 256, 300);
+        FurrowTalk x = Given.furrows(0, 10, 0, 0, 11, 0);
+        Given.text(x, 1, "d");
+        Given.row(x, 0, 8, 256, 300);
         due("27 the lowest 8 bits", x.judge(0), 1);
-        row(x, 0, 16, 65536, 256);
+        Given.row(x, 0, 16, 65536, 256);
         due("27 the lowest 16 bits", x.judge(0), 1);
-        row(x, 0, 32, 65536);
+        Given.row(x, 0, 32, 65536);
         due("27 32 bits", x.judge(0), 0);
-        row(x, 0, 32, 0, 256);
+        Given.row(x, 0, 32, 0, 256);
         due("27 32 bits, 256", x.judge(0), 1);
-        text(x, 1, "d-99");
-        row(x, 0, 8, 157);
+        Given.text(x, 1, "d-99");
+        Given.row(x, 0, 8, 157);
         due("27 the highest of 8 bits is a sign", x.judge(0), 1);
-        row(x, 0, 16, 65437);
+        Given.row(x, 0, 16, 65437);
         due("27 the highest of 16 bits is a sign", x.judge(0), 1);
-        row(x, 0, 32, -99);
+        Given.row(x, 0, 32, -99);
         due("27 32 bits below 0", x.judge(0), 1);
         due("27 sheet 4", x.put(4, 0, 0), BEYOND);
         due("27 sheet -1", x.put(-1, 0, 0), BEYOND);
@@ -1089,9 +1055,9 @@ public final class PromiseTest {
     }
 
     private static void promise28() {
-        FurrowTalk x = with(0, 10, 0, 0, 10, 0, 0, 10, 0, 0, 10, 0);
-        row(x, 0, 8, 11, 12, 13, 14);
-        row(x, 1, 8, 21, 22, 23, 24);
+        FurrowTalk x = Given.furrows(0, 10, 0, 0, 10, 0, 0, 10, 0, 0, 10, 0);
+        Given.row(x, 0, 8, 11, 12, 13, 14);
+        Given.row(x, 1, 8, 21, 22, 23, 24);
         due("28 two", x.move(0, 1, 1, 2, 2), 2);
         rowIs("28 to another", x, 1, 21, 22, 12, 13);
         rowIs("28 it stays", x, 0, 11, 12, 13, 14);
@@ -1116,61 +1082,61 @@ public final class PromiseTest {
         due("28 other missing", x.move(0, 0, 2, 0, 1), NONE);
         due("28 BEYOND ahead of NONE", x.move(2, 0, 4, 0, 1), BEYOND);
         due("28 NONE ahead of BEYOND", x.move(2, -1, 0, 0, 1), NONE);
-        row(x, 2, 16, 1, 2, 3, 4);
+        Given.row(x, 2, 16, 1, 2, 3, 4);
         due("28 unlike bits", x.move(0, 0, 2, 0, 1), KIND);
         due("28 KIND ahead of BEYOND", x.move(0, -1, 2, 0, 1), KIND);
         due("28 KIND, none", x.move(0, 0, 2, 0, 0), KIND);
-        row(x, 3, 32, 1, 2);
+        Given.row(x, 3, 32, 1, 2);
         due("28 unlike bits, too", x.move(3, 0, 2, 0, 1), KIND);
         due("28 a shorter one", x.move(0, 0, 0, 3, 2), BEYOND);
     }
 
     private static void promise29() {
-        FurrowTalk x = with(11, 10, 1, 0, 10, 0, 0, 10, 0);
-        row(x, 0, 16, 125, 34, 99, 11);
+        FurrowTalk x = Given.furrows(11, 10, 1, 0, 10, 0, 0, 10, 0);
+        Given.row(x, 0, 16, 125, 34, 99, 11);
         due("29 up to the first that is no LINE", x.lines(0), 2);
         due("29 the first", x.furrowIs(0, 2), 12);
         due("29 the second", x.furrowIs(1, 3), 4);
         due("29 the third stays", x.furrowIs(2, 2), 1);
         due("29 no ERROR", x.told(1), 0);
         due("29 KIND stays", x.furrowIs(0, 0), 1);
-        row(x, 0, 32, 11, 12, 13, 14);
+        Given.row(x, 0, 32, 11, 12, 13, 14);
         due("29 no more FURROWS", x.lines(0), 3);
         for (int bad : new int[] {0, 9, 16, 126, 130, -11, MIN, MAX}) {
-            row(x, 1, 32, bad);
+            Given.row(x, 1, 32, bad);
             due("29 no LINE " + bad, x.lines(1), 0);
         }
         due("29 it stays", x.furrowIs(0, 3), 1);
         x.cover(0, 1);
-        row(x, 1, 8, 55);
+        Given.row(x, 1, 8, 55);
         due("29 COVERED ones, too", x.lines(1), 1);
         due("29 COVERED one's LINE", x.furrowIs(0, 2), 5);
-        row(x, 1, 8);
+        Given.row(x, 1, 8);
         due("29 no numbers", x.lines(1), 0);
         due("29 missing", x.lines(2), NONE);
         due("29 sheet 4", x.lines(4), BEYOND);
         due("29 sheet -1", x.lines(-1), BEYOND);
         FurrowTalk y = new FurrowTalk();
-        row(y, 0, 8, 11);
+        Given.row(y, 0, 8, 11);
         due("29 no FURROWS", y.lines(0), 0);
     }
 
     private static void promise30() {
-        FurrowTalk x = with(0, 34, 0, 0, 55, 0, 0, 20, 0);
-        row(x, 0, 8, 12, 25, 0, 0);
+        FurrowTalk x = Given.furrows(0, 34, 0, 0, 55, 0, 0, 20, 0);
+        Given.row(x, 0, 8, 12, 25, 0, 0);
         due("30 all", x.judge(0), 3);
-        row(x, 0, 8, 12, 24, 0);
+        Given.row(x, 0, 8, 12, 24, 0);
         due("30 from the first on", x.judge(0), 1);
-        row(x, 0, 8, 11, 25, 0);
+        Given.row(x, 0, 8, 11, 25, 0);
         due("30 none", x.judge(0), 0);
-        row(x, 0, 8, 12, 25);
+        Given.row(x, 0, 8, 12, 25);
         due("30 fewer numbers", x.judge(0), 2);
         x.cover(1, 1);
         due("30 COVERED ones, too", x.judge(0), 2);
-        text(x, 1, "l+c");
-        row(x, 1, 16, 7, 10, 2);
+        Given.text(x, 1, "l+c");
+        Given.row(x, 1, 16, 7, 10, 2);
         due("30 by the TEXT", x.judge(1), 3);
-        row(x, 1, 16);
+        Given.row(x, 1, 16);
         due("30 no numbers", x.judge(1), 0);
         due("30 missing", x.judge(2), NONE);
         due("30 sheet 4", x.judge(4), BEYOND);
@@ -1178,7 +1144,7 @@ public final class PromiseTest {
     }
 
     private static void promise31() {
-        FurrowTalk x = with(12, 34, 5);
+        FurrowTalk x = Given.furrows(12, 34, 5);
         due("31 once", x.image(), 1);
         x.plough(0, 10, 0);
         due("31 twice", x.image(), 2);
@@ -1192,18 +1158,18 @@ public final class PromiseTest {
     }
 
     private static void promise32() {
-        FurrowTalk x = with(12, 34, 5, 0, 55, 0);
+        FurrowTalk x = Given.furrows(12, 34, 5, 0, 55, 0);
         due("32 none", x.restore(), NONE);
         x.years(3);
         x.cover(1, 1);
         x.patience(7);
         x.seed(99);
-        text(x, 0, "a*5");
-        text(x, 1, "l*5");
-        feed(x, "12");
+        Given.text(x, 0, "a*5");
+        Given.text(x, 1, "l*5");
+        Given.feed(x, "12");
         x.tell(3);
         x.tell(8);
-        row(x, 0, 8, 1);
+        Given.row(x, 0, 8, 1);
         x.voice(0, 0, 0);
         x.image();
         x.years(2);
@@ -1213,9 +1179,9 @@ public final class PromiseTest {
         x.plough(0, 10, 0);
         x.patience(1);
         x.seed(5);
-        text(x, 0, "b");
+        Given.text(x, 0, "b");
         x.untell(1);
-        feed(x, "345");
+        Given.feed(x, "345");
         x.check();
         x.tell(7);
         x.sheet(0, 16, 2);
@@ -1269,7 +1235,7 @@ public final class PromiseTest {
     }
 
     private static void promise34() {
-        FurrowTalk x = with(0, 10, 0, 0, 21, 0);
+        FurrowTalk x = Given.furrows(0, 10, 0, 0, 21, 0);
         due("34 none wait", x.check(), 0);
         x.years(2);
         x.tell(2);
@@ -1289,7 +1255,7 @@ public final class PromiseTest {
         due("34 no such FURROW", x.check(), 3);
         x.tell(2);
         due("34 fewer", x.check(), 0);
-        FurrowTalk y = full();
+        FurrowTalk y = Given.twelve();
         for (int i = 0; i < 13; i++) {
             y.tell(0);
         }
@@ -1302,7 +1268,7 @@ public final class PromiseTest {
     }
 
     private static void promise35() {
-        FurrowTalk x = with(10, 10, 0, 0, 21, 0, 0, 32, 0);
+        FurrowTalk x = Given.furrows(10, 10, 0, 0, 21, 0, 0, 32, 0);
         x.cover(0, 1);
         x.years(4);
         x.patience(9);
@@ -1323,7 +1289,7 @@ public final class PromiseTest {
     }
 
     private static void promise36() {
-        FurrowTalk x = with(0, 10, 0);
+        FurrowTalk x = Given.furrows(0, 10, 0);
         x.plough(70, 0, 0);
         x.cover(1, 0);
         x.body(0);
@@ -1366,7 +1332,7 @@ public final class PromiseTest {
     }
 
     private static void promise36Furrows() {
-        FurrowTalk x = full();
+        FurrowTalk x = Given.twelve();
         counted(x, "plough", () -> x.plough(0, 10, 9), BEYOND);
         counted(x, "plough of 12", () -> x.plough(0, 10, 0), FULL);
         counted(x, "furrowIs", () -> x.furrowIs(12, 0), BEYOND);
@@ -1420,7 +1386,7 @@ public final class PromiseTest {
     }
 
     private static void promise36Sheets() {
-        FurrowTalk x = with(0, 10, 0);
+        FurrowTalk x = Given.furrows(0, 10, 0);
         x.sheet(0, 8, 2);
         x.sheet(1, 16, 2);
         counted(x, "sheet", () -> x.sheet(4, 8, 1), BEYOND);
