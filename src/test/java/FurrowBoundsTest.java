@@ -219,6 +219,14 @@ public final class FurrowBoundsTest {
         due("it was not", x.cover(0, 1), 0);
         due("COVERED then", x.furrowIs(0, 6), 1);
         due("AGE is as it was", x.furrowIs(0, 5), 0);
+        FurrowTalk z = new FurrowTalk();
+        z.image();
+        z.plough(0, 10, 0);
+        z.years(60);
+        z.restore();
+        z.plough(0, 10, 0);
+        due("COVERED at first, where another one was", z.furrowIs(0, 6), 0);
+        due("AGE at first, where another one was", z.furrowIs(0, 5), 0);
         Checks.sentence("YEAR (0 .. 9999; 0 at first), PATIENCE (1 .. 20; 5 at first)");
         FurrowTalk y = new FurrowTalk();
         due("YEAR at first", y.count(2), 0);

@@ -28,6 +28,7 @@ public final class SheetBoundsTest {
         imageLeavesOut();
         restore();
         restoreEach();
+        restoreFurrows();
         tell();
         check();
         checkOfTwelve();
@@ -366,7 +367,11 @@ public final class SheetBoundsTest {
         x.untell(0);
         x.text(1);
         Given.text(x, 1, "5");
+        Given.feed(x, "xxxxxxxx");
         x.check();
+        for (int i = 0; i < 24; i++) {
+            x.tell(7);
+        }
         for (int i = 0; i < 2; i++) {
             due("YEAR", x.restore(), 19);
             long[] is = {12, 12, 19, 20, 60, 24, 0, MIN};
@@ -381,6 +386,39 @@ public final class SheetBoundsTest {
             x.cover(0, 1);
             x.untell(0);
         }
+    }
+
+    private static void restoreFurrows() {
+        FurrowTalk x = Given.furrows(69, 125, 5, 10, 10, 0);
+        x.cover(1, 1);
+        x.years(2);
+        x.image();
+        x.become(0, 0);
+        x.redraw(0, 10);
+        x.cover(0, 1);
+        x.cover(1, 0);
+        x.years(1);
+        x.plough(55, 64, 3);
+        x.years(4);
+        due("YEAR", x.restore(), 2);
+        due("two FURROWS", x.count(0), 2);
+        long[] first = {6, 9, 12, 5, 5, 2, 0};
+        long[] second = {1, 0, 1, 0, 0, 0, 1};
+        for (int what = 0; what < first.length; what++) {
+            due("the first, " + what, x.furrowIs(0, what), first[what]);
+            due("the second, " + what, x.furrowIs(1, what), second[what]);
+        }
+        FurrowTalk y = new FurrowTalk();
+        y.image();
+        y.plough(69, 125, 5);
+        y.restore();
+        y.plough(0, 10, 0);
+        due("m of another one in its place", y.furrowIs(0, 1), 0);
+        due("HAND of another one in its place", y.furrowIs(0, 4), 0);
+        y.image();
+        y.become(0, 69);
+        y.restore();
+        due("m as it was", y.furrowIs(0, 1), 0);
     }
 
     private static void tell() {

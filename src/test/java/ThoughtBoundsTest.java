@@ -164,8 +164,8 @@ public final class ThoughtBoundsTest {
         due("no FURROWS, of 5", new FurrowTalk().meaning(5), 0);
     }
 
-    private static FurrowTalk five() {
-        FurrowTalk x = Given.furrows(0, 10, 0, 10, 15, 0, 20, 64, 0, 50, 75, 0, 60, 121, 0);
+    private static FurrowTalk six() {
+        FurrowTalk x = Given.furrows(0, 10, 0, 10, 15, 1, 20, 64, 2, 50, 75, 3, 60, 121, 4, 60, 30, 4);
         x.patience(20);
         x.years(7);
         x.patience(9);
@@ -174,18 +174,18 @@ public final class ThoughtBoundsTest {
 
     private static void thenIsYears() {
         Checks.sentence("THEN: what is SEEN, n YEARS on.");
-        FurrowTalk thought = five();
+        FurrowTalk thought = six();
         for (int n = 1; n <= 60; n++) {
-            FurrowTalk lived = five();
+            FurrowTalk lived = six();
             due("how many, " + n, thought.then(n, 0), lived.years(n));
             int set = 0;
-            for (int i = 0; i < 5; i++) {
+            for (int i = 0; i < 6; i++) {
                 set |= lived.furrowIs(i, 6) == 0 ? 1 << i : 0;
             }
             due("the set, " + n, thought.then(n, 1), set);
         }
-        due("as it is", thought.then(0, 1), 31);
-        due("as it is, how many", thought.then(0, 0), 5);
+        due("as it is", thought.then(0, 1), 63);
+        due("as it is, how many", thought.then(0, 0), 6);
     }
 
     private static void then() {
