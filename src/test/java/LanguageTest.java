@@ -24,6 +24,8 @@ public final class LanguageTest {
         "::", "Exact\\b", "\\bSystem\\.(?!arraycopy\\b)", "\\bstatic\\s*\\{",
         "\\b(Object|Thread|Random|StringBuffer|HashMap|Exception)\\b",
         "\\b(equals|hashCode|toString|nanoTime|currentTimeMillis)\\b"};
+    /** Of the library, what the class may use and has a use for; LANGUAGE.md lists no constants of it. */
+    private static final String USED = "Integer.bitCount Math.abs Math.max Math.min System.arraycopy";
     private static final int MOST_METHOD_LINES = 60;
     private static final int MOST_CLASSES = 12;
     private static final int MOST_FIELDS = 20;
@@ -42,6 +44,7 @@ public final class LanguageTest {
             Matcher m = Pattern.compile(words).matcher(bare);
             Checks.due("rule against " + words, m.find() ? m.start() + 1 : 0, 0);
         }
+        checkLibrary(bare);
         checkLengths(bare);
         Checks.end();
     }
@@ -112,6 +115,15 @@ public final class LanguageTest {
 
     private static void checkSigns(String source) {
         good("signs are 1 to 127", source.chars().allMatch(s -> s >= 1 && s <= 127));
+    }
+
+    private static void checkLibrary(String bare) {
+        Set<String> allowed = new HashSet<>(Arrays.asList(USED.split(" ")));
+        Matcher m = Pattern.compile("\\b(Integer|Long|Short|Byte|Character|Boolean|Double|Math|System|Arrays|List|"
+            + "String|StringBuilder)\\.\\w+").matcher(bare);
+        while (m.find()) {
+            good("of the library: " + m.group(), allowed.contains(m.group()));
+        }
     }
 
     /** The source without comments, and with nothing between quotes. */

@@ -588,8 +588,8 @@ public final class PromiseTest {
     }
 
     private static int draw(int[] z) {
-        z[0] = z[0] * 1103515245 + 12345;
-        return z[0] >>> 8;
+        z[0] = Rules.drawn(z[0]);
+        return Rules.given(z[0]);
     }
 
     private static void promise15() {
