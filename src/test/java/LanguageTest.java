@@ -46,6 +46,7 @@ public final class LanguageTest {
         }
         checkLibrary(bare);
         checkLengths(bare);
+        checkMaking(bare);
         Checks.end();
     }
 
@@ -145,5 +146,29 @@ public final class LanguageTest {
                 good("short: " + lines[i].trim(), j < lines.length && j - i < MOST_METHOD_LINES);
             }
         }
+    }
+
+    /** All calls of a run live in one room: so rows and objects are made in constructors and for fields alone. */
+    private static void checkMaking(String bare) {
+        Pattern opening = Pattern.compile("(    |        )(?:\\w[\\w\\[\\]]* )*(\\w+)\\(.*\\) \\{");
+        Pattern making = Pattern.compile("\\bnew\\b|\\.clone\\(|\\.copyOf");
+        String method = "";
+        String end = "";
+        int made = 0;
+        for (String line : bare.split("\n")) {
+            Matcher opens = opening.matcher(line);
+            if (method.isEmpty() && opens.matches()) {
+                method = opens.group(2);
+                end = opens.group(1) + "}";
+            } else if (line.equals(end)) {
+                method = "";
+            }
+            if (making.matcher(line).find()) {
+                made++;
+                boolean withObject = method.isEmpty() || Character.isUpperCase(method.charAt(0));
+                good("made with the object, not by " + method + ": " + line.trim(), withObject);
+            }
+        }
+        good("something is made", made > 0);
     }
 }
